@@ -228,20 +228,11 @@ public final class BiddingTest {
         possible("b18 p p t w1,8", false, false, false);
         possible("b18 p p a4,0", false, false, false);
         possible("p p p", false, false, false);
-        possible("d2293 p p p 29 1 30 14 10 8 26 24 19 31 15 7 27 20 6 21 18 17 23 0 5 25 13 2 22 3 9 16 4 12", false,
-            false, false);
-    }
-
-    private static SkatMill tableAfter(String words) {
-        SkatMill x = new SkatMill();
-        if (!words.isEmpty()) {
-            Table.run(x, words);
-        }
-        return x;
+        possible(Table.RAMSCH_OVER, false, false, false);
     }
 
     private static void possible(String words, boolean bid, boolean hold, boolean pass) {
-        SkatMill x = tableAfter(words);
+        SkatMill x = Table.after(words);
         CHECKS.refused("bid(21) after " + words, IllegalArgumentException.class, x, () -> x.bid(21));
         if (!bid) {
             CHECKS.refused("bid(30) after " + words, IllegalStateException.class, x, () -> x.bid(30));
@@ -253,16 +244,16 @@ public final class BiddingTest {
             CHECKS.refused("pass() after " + words, IllegalStateException.class, x, x::pass);
         }
         if (bid) {
-            SkatMill y = tableAfter(words);
+            SkatMill y = Table.after(words);
             y.bid(30);
             CHECKS.equal("latestBid() after " + words + " b30", y.latestBid(), 30);
         }
         if (hold) {
-            SkatMill y = tableAfter(words);
+            SkatMill y = Table.after(words);
             CHECKS.equal("hold() after " + words, y.hold(), 1);
         }
         if (pass) {
-            SkatMill y = tableAfter(words);
+            SkatMill y = Table.after(words);
             int latest = y.latestBid();
             y.pass();
             CHECKS.equal("latestBid() after " + words + " p", y.latestBid(), latest);

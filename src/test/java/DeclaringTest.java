@@ -4,9 +4,8 @@ public final class DeclaringTest {
     private static final String DECLARED = "b18 p p";
     private static final String TAKEN = DECLARED + " t";
     private static final String PUT_AWAY = TAKEN + " w1,8";
-    private static final String RAMSCH_OVER =
-        "d2293 p p p 29 1 30 14 10 8 26 24 19 31 15 7 27 20 6 21 18 17 23 0 5 25 13 2 22 3 9 16 4 12";
-    private static final String[] PHASES = {"b18 h", "b18", DECLARED, TAKEN, PUT_AWAY, DECLARED + " a4,0", RAMSCH_OVER};
+    private static final String[] PHASES = {"b18 h", "b18", DECLARED, TAKEN, PUT_AWAY, DECLARED + " a4,0",
+        Table.RAMSCH_OVER};
 
     private static final Checks CHECKS = new Checks();
 
@@ -29,33 +28,27 @@ public final class DeclaringTest {
         CHECKS.end("DeclaringTest");
     }
 
-    private static SkatMill tableAfter(String words) {
-        SkatMill x = new SkatMill();
-        Table.run(x, words);
-        return x;
-    }
-
     private static void takeSkatGivesIt() {
-        SkatMill x = tableAfter(DECLARED);
+        SkatMill x = Table.after(DECLARED);
         CHECKS.equal("takeSkat()", x.takeSkat(), Table.set(0, 16));
         CHECKS.equal("the declarer's hand with the skat", x.hand(1),
             Table.set(0, 1, 8, 9, 11, 12, 13, 16, 21, 22, 29, 31));
         CHECKS.equal("hand(0) then", x.hand(0), Table.set(5, 6, 10, 14, 17, 18, 20, 23, 24, 27));
         CHECKS.equal("hand(2) then", x.hand(2), Table.set(2, 3, 4, 7, 15, 19, 25, 26, 28, 30));
-        SkatMill y = tableAfter("d2147483647 p p b18");
+        SkatMill y = Table.after("d2147483647 p p b18");
         CHECKS.equal("takeSkat() of another deal", y.takeSkat(), Table.set(7, 25));
-        SkatMill z = tableAfter("d5 p p b35");
+        SkatMill z = Table.after("d5 p p b35");
         CHECKS.equal("takeSkat() with card 31", z.takeSkat(), 2181038080L);
     }
 
     private static void takeSkatAtTheWrongTime() {
         for (String words : PHASES) {
             if (!words.equals(DECLARED)) {
-                SkatMill x = tableAfter(words);
+                SkatMill x = Table.after(words);
                 CHECKS.refused("takeSkat() after " + words, IllegalStateException.class, x, x::takeSkat);
             }
         }
-        SkatMill y = tableAfter("p p p");
+        SkatMill y = Table.after("p p p");
         CHECKS.refused("takeSkat() in ramsch", IllegalStateException.class, y, y::takeSkat);
     }
 
@@ -72,7 +65,7 @@ public final class DeclaringTest {
     }
 
     private static void putAway(int one, int other, int points) {
-        SkatMill x = tableAfter(TAKEN);
+        SkatMill x = Table.after(TAKEN);
         long hand = x.hand(1);
         String call = "putAway(" + one + ", " + other + ")";
         CHECKS.equal(call, x.putAway(one, other), points);
@@ -85,7 +78,7 @@ public final class DeclaringTest {
 
     private static void putAwayRefuses() {
         for (String words : PHASES) {
-            SkatMill x = tableAfter(words);
+            SkatMill x = Table.after(words);
             String after = " after " + words;
             int[][] noCard = {{32, 0}, {0, 32}, {-1, 0}, {0, -1}, {32, 32}, {-1, -1}, {Integer.MIN_VALUE, 1},
                 {1, Integer.MAX_VALUE}};
@@ -102,7 +95,7 @@ public final class DeclaringTest {
                 CHECKS.refused("putAway(9, 11)" + after, IllegalStateException.class, x, () -> x.putAway(9, 11));
             }
         }
-        SkatMill y = tableAfter(TAKEN);
+        SkatMill y = Table.after(TAKEN);
         int[][] notHeld = {{1, 2}, {2, 1}, {2, 3}, {31, 30}, {5, 0}};
         for (int[] pair : notHeld) {
             CHECKS.refused("putAway(" + pair[0] + ", " + pair[1] + ")", IllegalStateException.class, y,
@@ -127,7 +120,7 @@ public final class DeclaringTest {
     }
 
     private static void announce(String words, int contract, int extra, boolean possible) {
-        SkatMill x = tableAfter(words);
+        SkatMill x = Table.after(words);
         String call = "announce(" + contract + ", " + extra + ")";
         if (!possible) {
             CHECKS.refused(call + " after " + words, IllegalStateException.class, x, () -> x.announce(contract, extra));
@@ -143,7 +136,7 @@ public final class DeclaringTest {
 
     private static void announceRefuses() {
         for (String words : PHASES) {
-            SkatMill x = tableAfter(words);
+            SkatMill x = Table.after(words);
             int[][] outOfRange = {{-1, 0}, {6, 0}, {0, -1}, {0, 4}, {6, 4}, {-1, 3}, {5, 4},
                 {Integer.MAX_VALUE, 0}, {0, Integer.MIN_VALUE}};
             for (int[] pair : outOfRange) {
@@ -171,14 +164,14 @@ public final class DeclaringTest {
     private static void contractOfADeal() {
         int[] due = {-1, -1, -1, -1, -1, 4, 6};
         for (int i = 0; i < PHASES.length; i++) {
-            CHECKS.equal("contract() after " + PHASES[i], tableAfter(PHASES[i]).contract(), due[i]);
+            CHECKS.equal("contract() after " + PHASES[i], Table.after(PHASES[i]).contract(), due[i]);
         }
-        CHECKS.equal("contract() in ramsch", tableAfter("p p p").contract(), 6);
-        CHECKS.equal("contract() of the next deal", tableAfter("p p p d1").contract(), -1);
+        CHECKS.equal("contract() in ramsch", Table.after("p p p").contract(), 6);
+        CHECKS.equal("contract() of the next deal", Table.after("p p p d1").contract(), -1);
     }
 
     private static void matadors(String words, int player, int... due) {
-        SkatMill x = tableAfter(words);
+        SkatMill x = Table.after(words);
         for (int contract = 0; contract < due.length; contract++) {
             CHECKS.equal("matadors(" + player + ", " + contract + ") after " + words, x.matadors(player, contract),
                 due[contract]);
@@ -237,8 +230,8 @@ public final class DeclaringTest {
         }
         String over = "d859 p p b18 a0,0 31 17 23 7 10 0 6 26 3 5 27 4 2 18 8 1 11 16 14 12 13 30 28 29 25 19 20"
             + " 24 22 21";
-        SkatMill x = tableAfter("d859");
-        SkatMill y = tableAfter(over);
+        SkatMill x = Table.after("d859");
+        SkatMill y = Table.after(over);
         for (int contract = 0; contract < 5; contract++) {
             CHECKS.equal("matadors(0, " + contract + ") when all is played", y.matadors(0, contract),
                 x.matadors(0, contract));
@@ -254,7 +247,7 @@ public final class DeclaringTest {
 
     private static void matadorsRefuses() {
         for (String words : PHASES) {
-            SkatMill x = tableAfter(words);
+            SkatMill x = Table.after(words);
             int[][] noPlayer = {{-1, 0}, {3, 0}, {-1, 5}, {3, -1}, {Integer.MAX_VALUE, 4}, {Integer.MIN_VALUE, 9}};
             for (int[] pair : noPlayer) {
                 CHECKS.refused("matadors(" + pair[0] + ", " + pair[1] + ") after " + words,

@@ -15,9 +15,7 @@ public final class PlayTest {
     private static final String NULL = "b18 p p a5,0";
     private static final String RAMSCH = "p p p";
     private static final String[] GAMES = {DIAMONDS, HEARTS, SPADES, CLUBS, GRAND, NULL, RAMSCH};
-    private static final String OVER = "d2293 p p p 29 1 30 14 10 8 26 24 19 31 15 7 27 20 6 21 18 17 23 0 5 25 13 2 22 3"
-        + " 9 16 4 12";
-    private static final String[] NO_PLAY = {"d0", "b18", "b18 p p", "b18 p p t", "b18 p p t w1,8", OVER};
+    private static final String[] NO_PLAY = {"d0", "b18", "b18 p p", "b18 p p t", "b18 p p t w1,8", Table.RAMSCH_OVER};
 
     private static final Checks CHECKS = new Checks();
 
@@ -38,31 +36,26 @@ public final class PlayTest {
         CHECKS.end("PlayTest");
     }
 
-    private static SkatMill tableAfter(String words) {
-        SkatMill x = new SkatMill();
-        Table.run(x, words);
-        return x;
-    }
-
     private static void leaderPlaysAnyCard() {
         for (String game : GAMES) {
-            SkatMill x = tableAfter(game);
+            SkatMill x = Table.after(game);
             CHECKS.equal("playable() after " + game, x.playable(), Table.set(5, 6, 10, 14, 17, 18, 20, 23, 24, 27));
         }
         for (String words : NO_PLAY) {
-            SkatMill x = tableAfter(words);
+            SkatMill x = Table.after(words);
             CHECKS.refused("playable() after " + words, IllegalStateException.class, x, x::playable);
         }
     }
 
     private static void playable(String words, int... due) {
-        SkatMill x = tableAfter(words);
+        SkatMill x = Table.after(words);
         CHECKS.equal("playable() after " + words, x.playable(), Table.set(due));
         for (int card = 0; card < 32; card++) {
             int tried = card;
-            SkatMill y = tableAfter(words);
+            SkatMill y = Table.after(words);
             if ((Table.set(due) & 1L << card) == 0) {
-                CHECKS.refused("play(" + card + ") after " + words, IllegalStateException.class, y, () -> y.play(tried));
+                CHECKS.refused("play(" + card + ") after " + words, IllegalStateException.class, y,
+                    () -> y.play(tried));
             } else {
                 int turn = y.onTurn();
                 y.play(card);
@@ -104,17 +97,18 @@ public final class PlayTest {
     private static void playRefuses() {
         int[] noCards = {-1, 32, Integer.MIN_VALUE, Integer.MAX_VALUE};
         for (String words : NO_PLAY) {
-            SkatMill x = tableAfter(words);
+            SkatMill x = Table.after(words);
             for (int card = 0; card < 32; card++) {
                 int tried = card;
-                CHECKS.refused("play(" + card + ") after " + words, IllegalStateException.class, x, () -> x.play(tried));
+                CHECKS.refused("play(" + card + ") after " + words, IllegalStateException.class, x,
+                    () -> x.play(tried));
             }
             for (int card : noCards) {
                 CHECKS.refused("play(" + card + ") after " + words, IndexOutOfBoundsException.class, x,
                     () -> x.play(card));
             }
         }
-        SkatMill y = tableAfter(GRAND + " 5");
+        SkatMill y = Table.after(GRAND + " 5");
         for (int card : noCards) {
             CHECKS.refused("play(" + card + ")", IndexOutOfBoundsException.class, y, () -> y.play(card));
         }
@@ -191,12 +185,15 @@ public final class PlayTest {
         trick(NULL + " 24 31 28", 2);
         trick(NULL + " 24 31 30", 2);
         trick(NULL + " 27 29 28", 2);
+        // The third player has no card of the suit: the eight beats the seven.
+        trick("d24 b18 p p a5,0 8 9 0", 2);
+        trick("d123 b18 p p a5,0 16 17 0", 2);
         // A jack of another suit wins nothing: player 1 has no diamond left.
         trick(NULL + " 5 1 2 6 31 7", 0);
     }
 
     private static void winnerLeads() {
-        SkatMill x = tableAfter(CLUBS);
+        SkatMill x = Table.after(CLUBS);
         CHECKS.equal("onTurn() ahead of the lead", x.onTurn(), 0);
         x.play(20);
         CHECKS.equal("onTurn() after one card", x.onTurn(), 1);
@@ -217,13 +214,13 @@ public final class PlayTest {
     }
 
     private static void handsGetSmaller() {
-        SkatMill x = tableAfter(CLUBS);
+        SkatMill x = Table.after(CLUBS);
         CHECKS.equal("hand(0)", x.hand(0), Table.set(5, 6, 10, 14, 17, 18, 20, 23, 24, 27));
         Table.run(x, "5 1");
         CHECKS.equal("hand(0) after 5", x.hand(0), Table.set(6, 10, 14, 17, 18, 20, 23, 24, 27));
         CHECKS.equal("hand(1) after 1", x.hand(1), Table.set(8, 9, 11, 12, 13, 21, 22, 29, 31));
         CHECKS.equal("hand(2) ahead of its card", x.hand(2), Table.set(2, 3, 4, 7, 15, 19, 25, 26, 28, 30));
-        SkatMill y = tableAfter(OVER);
+        SkatMill y = Table.after(Table.RAMSCH_OVER);
         for (int player = 0; player < 3; player++) {
             CHECKS.equal("hand(" + player + ") when the deal is over", y.hand(player), 0);
         }
@@ -237,9 +234,9 @@ public final class PlayTest {
 
     private static void inTrickShowsTheTrick() {
         for (String words : NO_PLAY) {
-            inTrick(tableAfter(words), "after " + words, -1, -1, -1);
+            inTrick(Table.after(words), "after " + words, -1, -1, -1);
         }
-        SkatMill x = tableAfter(CLUBS);
+        SkatMill x = Table.after(CLUBS);
         inTrick(x, "ahead of the lead", -1, -1, -1);
         x.play(20);
         inTrick(x, "after one card", 20, -1, -1);
@@ -261,7 +258,7 @@ public final class PlayTest {
     }
 
     private static void pointsAndTricks() {
-        SkatMill x = tableAfter(CLUBS);
+        SkatMill x = Table.after(CLUBS);
         count(x, "ahead of the lead", new int[] {0, 0, 0}, new int[] {0, 0, 0});
         Table.run(x, "20 21");
         count(x, "within the trick", new int[] {0, 0, 0}, new int[] {0, 0, 0});
@@ -278,17 +275,17 @@ public final class PlayTest {
     private static void pointsOfTheSkat() {
         // By the number 1 the skat is the ace of diamonds and the jack of spades; player 2 is the middlehand.
         for (int contract = 0; contract <= 5; contract++) {
-            SkatMill x = tableAfter("d1 b18 p p");
+            SkatMill x = Table.after("d1 b18 p p");
             count(x, "ahead of announce", new int[] {0, 0, 0}, new int[] {0, 0, 0});
             x.announce(contract, 0);
             count(x, "with contract " + contract, new int[] {0, 0, 13}, new int[] {0, 0, 0});
-            SkatMill y = tableAfter("d1 b18 p p t w21,28");
+            SkatMill y = Table.after("d1 b18 p p t w21,28");
             count(y, "ahead of announce", new int[] {0, 0, 0}, new int[] {0, 0, 0});
             y.announce(contract, 0);
             count(y, "with contract " + contract + " and 14 points put away", new int[] {0, 0, 14},
                 new int[] {0, 0, 0});
         }
-        count(tableAfter("d1 p p p"), "as ramsch begins", new int[] {0, 0, 0}, new int[] {0, 0, 0});
+        count(Table.after("d1 p p p"), "as ramsch begins", new int[] {0, 0, 0}, new int[] {0, 0, 0});
     }
 
     private static int sumOfPoints(SkatMill x) {
@@ -297,7 +294,7 @@ public final class PlayTest {
 
     private static void pointsOfTheSkatInRamsch() {
         for (int number = 1; number < 40; number++) {
-            SkatMill x = tableAfter("d" + number + " p p p");
+            SkatMill x = Table.after("d" + number + " p p p");
             for (int plays = 0; plays < 29; plays++) {
                 x.play(Long.numberOfTrailingZeros(x.playable()));
             }
@@ -314,10 +311,10 @@ public final class PlayTest {
     }
 
     private static void wrongPlayersAndPlaces() {
-        String[] all = {"d0", "b18", "b18 p p", "b18 p p t", "b18 p p t w1,8", CLUBS + " 5", OVER};
+        String[] all = {"d0", "b18", "b18 p p", "b18 p p t", "b18 p p t w1,8", CLUBS + " 5", Table.RAMSCH_OVER};
         int[] wrong = {-1, 3, Integer.MIN_VALUE, Integer.MAX_VALUE};
         for (String words : all) {
-            SkatMill x = tableAfter(words);
+            SkatMill x = Table.after(words);
             for (int i : wrong) {
                 String of = "(" + i + ") after " + words;
                 CHECKS.refused("hand" + of, IndexOutOfBoundsException.class, x, () -> x.hand(i));

@@ -1,6 +1,19 @@
 /** Helpers of the tests for a table: a look at all of it, and a short way to write runs of calls. */
 final class Table {
+    /** A whole deal of ramsch, in which player 0 wins all tricks. */
+    static final String RAMSCH_OVER =
+        "d2293 p p p 29 1 30 14 10 8 26 24 19 31 15 7 27 20 6 21 18 17 23 0 5 25 13 2 22 3 9 16 4 12";
+
     private Table() {
+    }
+
+    /** A new table on which the calls have been made that the words name; none if there are no words. */
+    static SkatMill after(String words) {
+        SkatMill x = new SkatMill();
+        if (!words.isEmpty()) {
+            run(x, words);
+        }
+        return x;
     }
 
     static long set(int... cards) {

@@ -24,21 +24,15 @@ public final class ValueTest {
         CHECKS.end("ValueTest");
     }
 
-    private static SkatMill tableAfter(String words) {
-        SkatMill x = new SkatMill();
-        Table.run(x, words);
-        return x;
-    }
-
     private static void value(String words, int due) {
-        CHECKS.equal("value() after " + words, tableAfter(words).value(), due);
+        CHECKS.equal("value() after " + words, Table.after(words).value(), due);
     }
 
     private static void noContractNoValue() {
         String[] all = {"d0", "b18", "b18 h", "p p", "b18 p p", "b18 p p t", "b18 p p t w1,8", "p p p d0",
             "b18 p p a0,0 d0"};
         for (String words : all) {
-            SkatMill x = tableAfter(words);
+            SkatMill x = Table.after(words);
             CHECKS.refused("value() after " + words, IllegalStateException.class, x, x::value);
         }
     }
@@ -129,7 +123,7 @@ public final class ValueTest {
     }
 
     private static int[] growth(String begin, String plays, int declarer, int base, int times) {
-        SkatMill x = tableAfter(begin);
+        SkatMill x = Table.after(begin);
         int[] seen = {x.value(), 0, 0};
         for (String card : plays.split(" ")) {
             seen[1] = x.value();
@@ -151,7 +145,7 @@ public final class ValueTest {
         value("p p p 5 1 2", 10);
         value("p p p 20 21 19", 17);
         value("p p p 20 21 19 31 7 23", 23);
-        SkatMill x = tableAfter("d2293 p p p");
+        SkatMill x = Table.after("d2293 p p p");
         for (String card : RAMSCH_ALL_TRICKS.split(" ")) {
             Table.run(x, card);
             CHECKS.equal("value() in ramsch after " + card, x.value(),
@@ -189,7 +183,7 @@ public final class ValueTest {
         int[][] due = {{0, 45, 0}, {-120, 0, 0}, {-120, 0, 0}};
         for (int i = 0; i < runs.length; i++) {
             int last = runs[i].lastIndexOf(' ');
-            SkatMill x = tableAfter(runs[i].substring(0, last));
+            SkatMill x = Table.after(runs[i].substring(0, last));
             scores(x, "ahead of the last card", 0, 0, 0);
             Table.run(x, runs[i].substring(last));
             scores(x, "after the last card", due[i]);
