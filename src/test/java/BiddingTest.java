@@ -1,9 +1,6 @@
 /** Promises 1 to 10: a new object, dealing and bidding. */
 public final class BiddingTest {
-    private static final int[] BIDS = {
-        18, 20, 22, 23, 24, 27, 30, 33, 35, 36, 40, 44, 45, 46, 48, 50, 54, 55, 59, 60, 63, 66, 70, 72, 77, 80, 81, 84,
-        88, 90, 96, 99, 100, 108, 110, 117, 120, 121, 126, 130, 132, 135, 140, 143, 144, 150, 153, 154, 156, 160, 162,
-        165, 168, 170, 176, 180, 187, 192, 198, 204, 216, 240, 264};
+    private static final int[] BIDS = Table.BIDS;
 
     private static final Checks CHECKS = new Checks();
 
@@ -12,13 +9,15 @@ public final class BiddingTest {
         dealGivesCards();
         dealPassesTheForehandOn();
         dealStartsAnew();
-        dealRefuses();
+        refusedDealDoesNotCount();
         endingsOfTheBidding();
         phaseAndTurnThroughADeal();
         bidTakesTheBidsAlone();
         bidMustBeGreater();
+        bidBehindEachBid();
+        greatestBidLeavesAPassAlone();
+        allBidsInOneBidding();
         nextBidGivesTheBids();
-        callsAtTheWrongTime();
         CHECKS.end("BiddingTest");
     }
 
@@ -72,14 +71,11 @@ public final class BiddingTest {
         }
     }
 
-    private static void dealRefuses() {
+    private static void refusedDealDoesNotCount() {
         String[] begun = {"d1", "d1 b18", "d1 b18 p p", "d1 b18 p p t", "d1 b18 p p t w0,3", "d1 p p p"};
         for (String words : begun) {
-            SkatMill x = new SkatMill();
-            Table.run(x, words);
-            CHECKS.refused("deal(-1) after " + words, IllegalArgumentException.class, x, () -> x.deal(-1));
-            CHECKS.refused("deal(least) after " + words, IllegalArgumentException.class, x,
-                () -> x.deal(Integer.MIN_VALUE));
+            SkatMill x = Table.after(words);
+            CHECKS.same("deal(-1) after " + words, Checks.outcome(() -> x.deal(-1)), Checks.ARGUMENT);
             CHECKS.equal("a refused deal does not count, after " + words, x.deal(0), 2);
         }
     }
@@ -172,32 +168,63 @@ public final class BiddingTest {
     }
 
     private static void tryFirstBid(int value) {
-        SkatMill x = new SkatMill();
+        String call = "bid(" + value + ")";
         if (isBid(value)) {
-            CHECKS.equal("bid(" + value + ")", x.bid(value), 0);
-            CHECKS.equal("latestBid() after bid(" + value + ")", x.latestBid(), value);
+            CHECKS.answer("", call, 0);
+            CHECKS.answer(call, "latestBid()", value);
         } else {
-            CHECKS.refused("bid(" + value + ")", IllegalArgumentException.class, x, () -> x.bid(value));
+            CHECKS.refused("", call, Checks.ARGUMENT);
         }
     }
 
     private static void bidMustBeGreater() {
-        SkatMill x = new SkatMill();
-        Table.run(x, "b24 h");
         int[] refused = {18, 20, 22, 23, 24};
         for (int value : refused) {
-            CHECKS.refused("bid(" + value + ") after 24", IllegalStateException.class, x, () -> x.bid(value));
+            CHECKS.refused("b24 h", "bid(" + value + ")", Checks.STATE);
         }
-        CHECKS.refused("bid(25) after 24", IllegalArgumentException.class, x, () -> x.bid(25));
-        CHECKS.equal("bid(27) after 24", x.bid(27), 0);
-        x.pass();
-        CHECKS.refused("the rearhand's bid(27) after 27", IllegalStateException.class, x, () -> x.bid(27));
-        CHECKS.equal("the rearhand's bid(30) after 27", x.bid(30), 1);
-        SkatMill y = new SkatMill();
-        Table.run(y, "b264 h");
-        CHECKS.refused("bid(264) after 264", IllegalStateException.class, y, () -> y.bid(264));
-        CHECKS.equal("phase() behind 264", y.phase(), 0);
-        CHECKS.equal("pass() behind 264", y.pass(), 2);
+        CHECKS.refused("b24 h", "bid(25)", Checks.ARGUMENT);
+        CHECKS.answer("b24 h", "bid(27)", 0);
+        CHECKS.refused("b24 h b27 p", "bid(27)", Checks.STATE);
+        CHECKS.answer("b24 h b27 p", "bid(30)", 1);
+    }
+
+    /** Behind each bid the next one is possible, and the bid itself and the one before it are not. */
+    private static void bidBehindEachBid() {
+        for (int i = 0; i < BIDS.length; i++) {
+            String held = "b" + BIDS[i] + " h";
+            String passed = "b" + BIDS[i] + " p";
+            CHECKS.refused(held, "bid(" + BIDS[i] + ")", Checks.STATE);
+            CHECKS.refused(passed, "bid(" + BIDS[i] + ")", Checks.STATE);
+            if (i > 0) {
+                CHECKS.refused(held, "bid(" + BIDS[i - 1] + ")", Checks.STATE);
+            }
+            if (i < BIDS.length - 1) {
+                CHECKS.answer(held, "bid(" + BIDS[i + 1] + ")", 0);
+                CHECKS.answer(passed, "bid(" + BIDS[i + 1] + ")", 1);
+            }
+        }
+    }
+
+    private static void greatestBidLeavesAPassAlone() {
+        for (int value : BIDS) {
+            CHECKS.refused("b264 h", "bid(" + value + ")", Checks.STATE);
+            CHECKS.refused("b264 p", "bid(" + value + ")", Checks.STATE);
+        }
+        CHECKS.answer("b264 h", "phase()", 0);
+        CHECKS.answer("b264 h", "pass()", 2);
+        CHECKS.answer("b264 p", "phase()", 0);
+        CHECKS.answer("b264 p", "pass()", 1);
+        CHECKS.answer("b264 h p p", "declarer()", 0);
+    }
+
+    /** A bid by each of them in turn, from the least to the greatest. */
+    private static void allBidsInOneBidding() {
+        SkatMill x = new SkatMill();
+        for (int value : BIDS) {
+            CHECKS.equal("bid(" + value + ")", x.bid(value), 0);
+            CHECKS.equal("hold() of " + value, x.hold(), 1);
+        }
+        CHECKS.equal("latestBid() behind all bids", x.latestBid(), 264);
     }
 
     private static void nextBidGivesTheBids() {
@@ -209,54 +236,6 @@ public final class BiddingTest {
                 at++;
             }
             CHECKS.equal("nextBid(" + number + ")", x.nextBid(number), BIDS[at]);
-        }
-        int[] refused = {-1, 264, 265, Integer.MIN_VALUE, Integer.MAX_VALUE};
-        for (int number : refused) {
-            CHECKS.refused("nextBid(" + number + ")", IllegalArgumentException.class, x, () -> x.nextBid(number));
-        }
-    }
-
-    /** Which of bid, hold and pass is possible in each phase, and that a wrong argument goes first. */
-    private static void callsAtTheWrongTime() {
-        possible("", true, false, true);
-        possible("b18", false, true, true);
-        possible("b18 h", true, false, true);
-        possible("b18 p", true, false, true);
-        possible("p p", true, false, true);
-        possible("b18 p p", false, false, false);
-        possible("b18 p p t", false, false, false);
-        possible("b18 p p t w1,8", false, false, false);
-        possible("b18 p p a4,0", false, false, false);
-        possible("p p p", false, false, false);
-        possible(Table.RAMSCH_OVER, false, false, false);
-    }
-
-    private static void possible(String words, boolean bid, boolean hold, boolean pass) {
-        SkatMill x = Table.after(words);
-        CHECKS.refused("bid(21) after " + words, IllegalArgumentException.class, x, () -> x.bid(21));
-        if (!bid) {
-            CHECKS.refused("bid(30) after " + words, IllegalStateException.class, x, () -> x.bid(30));
-        }
-        if (!hold) {
-            CHECKS.refused("hold() after " + words, IllegalStateException.class, x, x::hold);
-        }
-        if (!pass) {
-            CHECKS.refused("pass() after " + words, IllegalStateException.class, x, x::pass);
-        }
-        if (bid) {
-            SkatMill y = Table.after(words);
-            y.bid(30);
-            CHECKS.equal("latestBid() after " + words + " b30", y.latestBid(), 30);
-        }
-        if (hold) {
-            SkatMill y = Table.after(words);
-            CHECKS.equal("hold() after " + words, y.hold(), 1);
-        }
-        if (pass) {
-            SkatMill y = Table.after(words);
-            int latest = y.latestBid();
-            y.pass();
-            CHECKS.equal("latestBid() after " + words + " p", y.latestBid(), latest);
         }
     }
 }

@@ -2,6 +2,10 @@ import java.util.function.LongSupplier;
 
 /** Counts and prints the answers that are not as due, and ends a test. */
 final class Checks {
+    static final String INDEX = "IndexOutOfBoundsException";
+    static final String ARGUMENT = "IllegalArgumentException";
+    static final String STATE = "IllegalStateException";
+
     private int made = 0;
     private int wrong = 0;
 
@@ -21,11 +25,21 @@ final class Checks {
         }
     }
 
-    /** The call has to throw exactly this exception and to leave the table as it was. */
-    void refused(String call, Class<? extends RuntimeException> due, SkatMill table, LongSupplier body) {
-        String before = Table.look(table);
-        same(call, outcome(body), due.getSimpleName());
-        same("the table after " + call, Table.look(table), before);
+    /** The call, named as for Table.run, has to give this answer when it follows the words. */
+    void answer(String words, String call, long due) {
+        SkatMill x = Table.after(words);
+        same(call + " after " + words, outcome(() -> Table.run(x, call)), Long.toString(due));
+    }
+
+    /**
+     * The call has to throw exactly this exception when it follows the words, and to leave the table as it was. Each
+     * time a new table is made, as nothing is promised behind 512 calls.
+     */
+    void refused(String words, String call, String due) {
+        SkatMill x = Table.after(words);
+        String before = Table.look(x);
+        same(call + " after " + words, outcome(() -> Table.run(x, call)), due);
+        same("the table when " + call + " was refused after " + words, Table.look(x), before);
     }
 
     static String outcome(LongSupplier body) {

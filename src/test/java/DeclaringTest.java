@@ -11,12 +11,10 @@ public final class DeclaringTest {
 
     public static void main(String[] args) {
         takeSkatGivesIt();
-        takeSkatAtTheWrongTime();
         putAwayAnswersPoints();
-        putAwayRefuses();
+        putAwayRefusesCardsOfOthers();
         announceFromTheHand();
         announceWithTheSkat();
-        announceRefuses();
         forehandLeadsWhoeverDeclares();
         contractOfADeal();
         matadorsOfFirstDeal();
@@ -24,7 +22,6 @@ public final class DeclaringTest {
         matadorsOfLongRuns();
         matadorsStayWhileCardsArePlayed();
         matadorsInRamsch();
-        matadorsRefuses();
         CHECKS.end("DeclaringTest");
     }
 
@@ -39,17 +36,6 @@ public final class DeclaringTest {
         CHECKS.equal("takeSkat() of another deal", y.takeSkat(), Table.set(7, 25));
         SkatMill z = Table.after("d5 p p b35");
         CHECKS.equal("takeSkat() with card 31", z.takeSkat(), 2181038080L);
-    }
-
-    private static void takeSkatAtTheWrongTime() {
-        for (String words : PHASES) {
-            if (!words.equals(DECLARED)) {
-                SkatMill x = Table.after(words);
-                CHECKS.refused("takeSkat() after " + words, IllegalStateException.class, x, x::takeSkat);
-            }
-        }
-        SkatMill y = Table.after("p p p");
-        CHECKS.refused("takeSkat() in ramsch", IllegalStateException.class, y, y::takeSkat);
     }
 
     private static void putAwayAnswersPoints() {
@@ -76,30 +62,10 @@ public final class DeclaringTest {
         CHECKS.equal("points(1) after " + call + " and announce", x.points(1), points);
     }
 
-    private static void putAwayRefuses() {
-        for (String words : PHASES) {
-            SkatMill x = Table.after(words);
-            String after = " after " + words;
-            int[][] noCard = {{32, 0}, {0, 32}, {-1, 0}, {0, -1}, {32, 32}, {-1, -1}, {Integer.MIN_VALUE, 1},
-                {1, Integer.MAX_VALUE}};
-            for (int[] pair : noCard) {
-                CHECKS.refused("putAway(" + pair[0] + ", " + pair[1] + ")" + after, IndexOutOfBoundsException.class, x,
-                    () -> x.putAway(pair[0], pair[1]));
-            }
-            for (int card = 0; card < 32; card++) {
-                int same = card;
-                CHECKS.refused("putAway(" + card + ", " + card + ")" + after, IllegalArgumentException.class, x,
-                    () -> x.putAway(same, same));
-            }
-            if (!words.equals(TAKEN)) {
-                CHECKS.refused("putAway(9, 11)" + after, IllegalStateException.class, x, () -> x.putAway(9, 11));
-            }
-        }
-        SkatMill y = Table.after(TAKEN);
+    private static void putAwayRefusesCardsOfOthers() {
         int[][] notHeld = {{1, 2}, {2, 1}, {2, 3}, {31, 30}, {5, 0}};
         for (int[] pair : notHeld) {
-            CHECKS.refused("putAway(" + pair[0] + ", " + pair[1] + ")", IllegalStateException.class, y,
-                () -> y.putAway(pair[0], pair[1]));
+            CHECKS.refused(TAKEN, "putAway(" + pair[0] + "," + pair[1] + ")", Checks.STATE);
         }
     }
 
@@ -120,34 +86,18 @@ public final class DeclaringTest {
     }
 
     private static void announce(String words, int contract, int extra, boolean possible) {
-        SkatMill x = Table.after(words);
-        String call = "announce(" + contract + ", " + extra + ")";
+        String call = "announce(" + contract + "," + extra + ")";
         if (!possible) {
-            CHECKS.refused(call + " after " + words, IllegalStateException.class, x, () -> x.announce(contract, extra));
+            CHECKS.refused(words, call, Checks.STATE);
             return;
         }
+        SkatMill x = Table.after(words);
         CHECKS.equal(call + " after " + words, x.announce(contract, extra), 0);
         CHECKS.equal("contract() after " + call, x.contract(), contract);
         CHECKS.equal("phase() after " + call, x.phase(), 5);
         CHECKS.equal("onTurn() after " + call, x.onTurn(), 0);
         CHECKS.equal("declarer() after " + call, x.declarer(), 1);
         CHECKS.equal("latestBid() after " + call, x.latestBid(), 18);
-    }
-
-    private static void announceRefuses() {
-        for (String words : PHASES) {
-            SkatMill x = Table.after(words);
-            int[][] outOfRange = {{-1, 0}, {6, 0}, {0, -1}, {0, 4}, {6, 4}, {-1, 3}, {5, 4},
-                {Integer.MAX_VALUE, 0}, {0, Integer.MIN_VALUE}};
-            for (int[] pair : outOfRange) {
-                CHECKS.refused("announce(" + pair[0] + ", " + pair[1] + ") after " + words,
-                    IllegalArgumentException.class, x, () -> x.announce(pair[0], pair[1]));
-            }
-            if (!words.equals(DECLARED) && !words.equals(PUT_AWAY)) {
-                CHECKS.refused("announce(0, 0) after " + words, IllegalStateException.class, x, () -> x.announce(0, 0));
-                CHECKS.refused("announce(5, 3) after " + words, IllegalStateException.class, x, () -> x.announce(5, 3));
-            }
-        }
     }
 
     private static void forehandLeadsWhoeverDeclares() {
@@ -243,21 +193,5 @@ public final class DeclaringTest {
         matadors("d931367 p p p", 2, 1, 1, 1, 1, 1);
         matadors("d931367 p p p", 0, -5, -8, -11, -4, -4);
         matadors("d931367 p p p 0", 1, -4, -4, -11, -5, -4);
-    }
-
-    private static void matadorsRefuses() {
-        for (String words : PHASES) {
-            SkatMill x = Table.after(words);
-            int[][] noPlayer = {{-1, 0}, {3, 0}, {-1, 5}, {3, -1}, {Integer.MAX_VALUE, 4}, {Integer.MIN_VALUE, 9}};
-            for (int[] pair : noPlayer) {
-                CHECKS.refused("matadors(" + pair[0] + ", " + pair[1] + ") after " + words,
-                    IndexOutOfBoundsException.class, x, () -> x.matadors(pair[0], pair[1]));
-            }
-            int[] noContract = {-1, 5, 6, Integer.MIN_VALUE, Integer.MAX_VALUE};
-            for (int contract : noContract) {
-                CHECKS.refused("matadors(0, " + contract + ") after " + words, IllegalArgumentException.class, x,
-                    () -> x.matadors(0, contract));
-            }
-        }
     }
 }

@@ -9,9 +9,9 @@ import java.util.List;
 
 /** The class has the document's face, and nothing else of it can be seen from outside. */
 public final class FaceTest {
-    private static final String INDEX = "IndexOutOfBoundsException";
-    private static final String ARGUMENT = "IllegalArgumentException";
-    private static final String STATE = "IllegalStateException";
+    private static final String INDEX = Checks.INDEX;
+    private static final String ARGUMENT = Checks.ARGUMENT;
+    private static final String STATE = Checks.STATE;
 
     private static final List<String> FACE = List.of(
         "int deal(int) " + ARGUMENT,

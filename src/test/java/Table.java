@@ -4,6 +4,12 @@ final class Table {
     static final String RAMSCH_OVER =
         "d2293 p p p 29 1 30 14 10 8 26 24 19 31 15 7 27 20 6 21 18 17 23 0 5 25 13 2 22 3 9 16 4 12";
 
+    /** All bids there are, from the least to the greatest. */
+    static final int[] BIDS = {
+        18, 20, 22, 23, 24, 27, 30, 33, 35, 36, 40, 44, 45, 46, 48, 50, 54, 55, 59, 60, 63, 66, 70, 72, 77, 80, 81, 84,
+        88, 90, 96, 99, 100, 108, 110, 117, 120, 121, 126, 130, 132, 135, 140, 143, 144, 150, 153, 154, 156, 160, 162,
+        165, 168, 170, 176, 180, 187, 192, 198, 204, 216, 240, 264};
+
     private Table() {
     }
 
@@ -47,7 +53,8 @@ final class Table {
 
     /**
      * Makes the calls that the words name, and returns the answer of the last: d7 deal(7), b18 bid(18), h hold(),
-     * p pass(), t takeSkat(), w3,4 putAway(3, 4), a2,1 announce(2, 1), and a bare number plays that card.
+     * p pass(), t takeSkat(), w3,4 putAway(3, 4), a2,1 announce(2, 1), and a bare number plays that card. Any call
+     * can be named in full too, as matadors(2,4).
      */
     static long run(SkatMill x, String words) {
         long last = 0;
@@ -59,6 +66,9 @@ final class Table {
 
     private static long call(SkatMill x, String word) {
         char first = word.charAt(0);
+        if (word.indexOf('(') > 0) {
+            return namedCall(x, word);
+        }
         if (Character.isDigit(first)) {
             return x.play(Integer.parseInt(word));
         }
@@ -79,7 +89,62 @@ final class Table {
             case 'a':
                 return x.announce(Integer.parseInt(parts[0]), Integer.parseInt(parts[1]));
             default:
-                throw new IllegalArgumentException(word);
+                throw new UnsupportedOperationException(word);
+        }
+    }
+
+    private static long namedCall(SkatMill x, String word) {
+        int open = word.indexOf('(');
+        String[] parts = word.substring(open + 1, word.length() - 1).split(",");
+        int one = parts[0].isEmpty() ? 0 : Integer.parseInt(parts[0]);
+        int other = parts.length < 2 ? 0 : Integer.parseInt(parts[1]);
+        switch (word.substring(0, open)) {
+            case "deal":
+                return x.deal(one);
+            case "phase":
+                return x.phase();
+            case "onTurn":
+                return x.onTurn();
+            case "bid":
+                return x.bid(one);
+            case "hold":
+                return x.hold();
+            case "pass":
+                return x.pass();
+            case "latestBid":
+                return x.latestBid();
+            case "nextBid":
+                return x.nextBid(one);
+            case "declarer":
+                return x.declarer();
+            case "takeSkat":
+                return x.takeSkat();
+            case "putAway":
+                return x.putAway(one, other);
+            case "announce":
+                return x.announce(one, other);
+            case "contract":
+                return x.contract();
+            case "matadors":
+                return x.matadors(one, other);
+            case "playable":
+                return x.playable();
+            case "play":
+                return x.play(one);
+            case "hand":
+                return x.hand(one);
+            case "inTrick":
+                return x.inTrick(one);
+            case "points":
+                return x.points(one);
+            case "tricks":
+                return x.tricks(one);
+            case "value":
+                return x.value();
+            case "score":
+                return x.score(one);
+            default:
+                throw new UnsupportedOperationException(word);
         }
     }
 }

@@ -11,7 +11,6 @@ public final class ValueTest {
     private static final Checks CHECKS = new Checks();
 
     public static void main(String[] args) {
-        noContractNoValue();
         valueFromTheHand();
         valueWithTheSkat();
         valueWithMatadors();
@@ -26,15 +25,6 @@ public final class ValueTest {
 
     private static void value(String words, int due) {
         CHECKS.equal("value() after " + words, Table.after(words).value(), due);
-    }
-
-    private static void noContractNoValue() {
-        String[] all = {"d0", "b18", "b18 h", "p p", "b18 p p", "b18 p p t", "b18 p p t w1,8", "p p p d0",
-            "b18 p p a0,0 d0"};
-        for (String words : all) {
-            SkatMill x = Table.after(words);
-            CHECKS.refused("value() after " + words, IllegalStateException.class, x, x::value);
-        }
     }
 
     /** In deal 0 player 1 has one matador: times 1 + 1 for the game, 1 for the hand, and what is announced. */
