@@ -302,22 +302,28 @@ public final class SkatMill {
     }
 
     private void shuffle(int number) {
-        for (int card = 0; card < CARDS; card++) {
+        for (int card = 0; card < deck.length; card++) {
             deck[card] = card;
         }
         long s = number;
-        for (int i = CARDS - 1; i >= 1; i--) {
+        for (int i = deck.length - 1; i >= 1; i--) {
             s = (s * 1103515245L + 12345L) & 0x7fffffffL;
-            int place = (int) (s / 65536 % (i + 1));
-            int card = deck[i];
-            deck[i] = deck[place];
-            deck[place] = card;
+            exchange(i, (int) (s / 65536 % (i + 1)));
         }
+    }
+
+    private void exchange(int one, int other) {
+        if (one < 0 || one >= deck.length || other < 0 || other >= deck.length) {
+            return;
+        }
+        int card = deck[one];
+        deck[one] = deck[other];
+        deck[other] = card;
     }
 
     private void giveCards() {
         skat = 0;
-        for (int place = 0; place < CARDS; place++) {
+        for (int place = 0; place < deck.length; place++) {
             long card = Cards.setOf(deck[place]);
             if (place < PLAYERS * HAND_SIZE) {
                 seat(place / HAND_SIZE).cards |= card;
@@ -587,8 +593,12 @@ public final class SkatMill {
             return 0xffL << (number * RANKS);
         }
 
+        private static int ofRank(int[] row, int rank) {
+            return rank >= 0 && rank < row.length ? row[rank] : 0;
+        }
+
         private static int pointsOf(int card) {
-            return POINTS[rankOf(card)];
+            return ofRank(POINTS, rankOf(card));
         }
 
         private static int pointsIn(long set) {
@@ -621,7 +631,7 @@ public final class SkatMill {
             if ((colourOf(led, contract) & setOf(card)) == 0) {
                 return 0;
             }
-            return 1 + (contract == NULL_GAME ? ORDER_IN_NULL[rankOf(card)] : rankOf(card));
+            return 1 + (contract == NULL_GAME ? ofRank(ORDER_IN_NULL, rankOf(card)) : rankOf(card));
         }
 
         private static int runOfTrumps(long set, int contract) {
